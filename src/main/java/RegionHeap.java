@@ -306,7 +306,7 @@ public final class RegionHeap {
 
     private int collectWithin(int budget) {
         beginPlan(chooseWithin(budget));
-        if (!planCopies()) {
+        if (!planRoots() || !planRegionsThatStay() || !planFound()) {
             collectFully();
             return FULL_INSTEAD;
         }
@@ -329,10 +329,7 @@ public final class RegionHeap {
         }
     }
 
-    private boolean planCopies() {
-        return planRoots() && planRegionsThatStay() && planFound();
-    }
-
+    /** This and the other plans answer false when a FREE region is needed and there is none. */
     private boolean planRoots() {
         for (int i = 0; i < ROOT_COUNT; i++) {
             if (!planCopy(roots[i])) {
@@ -373,7 +370,6 @@ public final class RegionHeap {
         return true;
     }
 
-    /** False when a FREE region is needed and there is none. */
     private boolean planCopy(Item item) {
         if (item == null || !item.home.collected || item.target != null) {
             return true;
@@ -394,18 +390,12 @@ public final class RegionHeap {
         if (last != null && last.plannedUsed + words <= REGION_WORDS) {
             return last;
         }
-        Region next = leastFreeUnplanned();
-        if (next != null) {
-            next.plannedKind = kind;
-            lastTarget[kind] = next;
-        }
-        return next;
-    }
-
-    private Region leastFreeUnplanned() {
         for (int r = 0; r < REGION_COUNT; r++) {
-            if (regions[r].kind == FREE && regions[r].plannedKind == FREE) {
-                return regions[r];
+            Region region = regions[r];
+            if (region.kind == FREE && region.plannedKind == FREE) {
+                region.plannedKind = kind;
+                lastTarget[kind] = region;
+                return region;
             }
         }
         return null;

@@ -28,7 +28,8 @@ public final class FaceTest {
         Checks.due("methods", seen.toString(), new TreeSet<>(Set.of(FACE)).toString());
         for (Method method : face.getDeclaredMethods()) {
             boolean hidden = Modifier.isPrivate(method.getModifiers());
-            Checks.due("private " + method.getName() + " bears a public name", hidden && names.contains(method.getName()), false);
+            Checks.due("private " + method.getName() + " bears a public name",
+                hidden && names.contains(method.getName()), false);
         }
         for (Field field : face.getDeclaredFields()) {
             Checks.due("field " + field.getName() + " is private", Modifier.isPrivate(field.getModifiers()), true);

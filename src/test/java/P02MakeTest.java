@@ -6,6 +6,7 @@ public final class P02MakeTest {
         objectsLieBehindOneAnother();
         aFullCurrentRegionIsLeftForGood();
         thirdEdenFullMeansCollection();
+        itsCollectionHasBudgetZero();
         liveCountIsForgotten();
         collectionThenFullThenOld();
         leastOldRegionWithRoom();
@@ -76,6 +77,20 @@ public final class P02MakeTest {
         Checks.due("count(0)", heap.count(0), 1);
         Checks.due("count(1)", heap.count(1), 0);
         Checks.due("count(2)", heap.count(2), 8);
+    }
+
+    private static void itsCollectionHasBudgetZero() {
+        RegionHeap heap = new RegionHeap();
+        heap.make(0, 0, 0);
+        heap.full();
+        heap.hold(0, -1);
+        heap.mark();
+        Checks.due("chosen(1)", heap.chosen(1), 1);
+        for (int i = 0; i < 7; i++) {
+            heap.make(0, 3, 3);
+        }
+        Checks.due("count(0)", heap.count(0), 1);
+        Checks.due("no OLD region is collected", Checks.kinds(heap), "310020000000");
     }
 
     private static void liveCountIsForgotten() {

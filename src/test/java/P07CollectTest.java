@@ -8,6 +8,7 @@ public final class P07CollectTest {
         objectsNotReachedInRegionsThatStayKeepOthers();
         chosenRegionsAreCollected();
         bothKindsAtOnce();
+        aRegionCopiedToIsFilledAnewLater();
         fullInstead();
         fullInsteadAfterSomeWerePlanned();
         liveCountsAndCurrentRegionAreForgotten();
@@ -157,6 +158,18 @@ public final class P07CollectTest {
         Checks.due("kinds", Checks.kinds(heap), "003200000000");
     }
 
+    private static void aRegionCopiedToIsFilledAnewLater() {
+        RegionHeap heap = new RegionHeap();
+        heap.make(0, 3, 3);
+        heap.collect(0);
+        heap.hold(0, -1);
+        heap.collect(0);
+        heap.make(0, 3, 3);
+        heap.make(1, 3, 3);
+        Checks.due("collect(0)", heap.collect(0), 2);
+        Checks.due("places", Checks.place(heap, 0) + " " + Checks.place(heap, 1), "1+0 1+8");
+    }
+
     private static void fullInstead() {
         RegionHeap heap = new RegionHeap();
         heap.large(0, 0, 40);
@@ -185,7 +198,8 @@ public final class P07CollectTest {
         heap.make(5, 3, 3);
         Checks.due("collect(0)", heap.collect(0), -2);
         Checks.due("kinds", Checks.kinds(heap), "455455455330");
-        Checks.due("places", Checks.place(heap, 3) + Checks.place(heap, 4) + Checks.place(heap, 5), "9+09+810+0");
+        Checks.due("places", Checks.place(heap, 3) + " " + Checks.place(heap, 4) + " " + Checks.place(heap, 5),
+            "9+0 9+8 10+0");
         Checks.due("count(2)", heap.count(2), 0);
         Checks.due("region 11 can be made EDEN", heap.make(5, 0, 0), 7);
         Checks.due("kinds then", Checks.kinds(heap), "455455455331");
