@@ -1,14 +1,20 @@
 /** Compares answers with what is due, prints each that differs, and ends the test. */
 final class Checks {
     private static int wrong = 0;
+    private static String sentence = "";
 
     private Checks() {
+    }
+
+    /** The words of the document that the checks from here on are for; shown with each that fails. */
+    static void sentence(String words) {
+        sentence = "\"" + words + "\": ";
     }
 
     static void due(String call, long got, long want) {
         if (got != want) {
             wrong++;
-            System.out.println(call + " answered " + got + ", due is " + want);
+            System.out.println(sentence + call + " answered " + got + ", due is " + want);
         }
     }
 
@@ -19,7 +25,7 @@ final class Checks {
     static void due(String what, String got, String want) {
         if (!got.equals(want)) {
             wrong++;
-            System.out.println(what + " was\n" + got + "\ndue is\n" + want);
+            System.out.println(sentence + what + " was\n" + got + "\ndue is\n" + want);
         }
     }
 
