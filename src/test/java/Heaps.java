@@ -5,12 +5,13 @@ final class Heaps {
 
     /**
      * All regions but the last ones are LARGE, each with an object of its own. Root 0 holds the last of these
-     * objects and each holds the one before, so that root 0 alone decides whether they are reached.
+     * objects and field 0 of each the one before, so that root 0 alone decides whether they are reached; their
+     * fields 1 are null.
      */
     static RegionHeap walled(int regionsLeft) {
         RegionHeap heap = new RegionHeap();
         for (int region = 0; region < 12 - regionsLeft; region++) {
-            heap.large(1, 1, 16);
+            heap.large(1, 2, 16);
             heap.link(1, 0, 0);
             heap.hold(0, 1);
         }

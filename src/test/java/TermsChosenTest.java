@@ -9,6 +9,7 @@ public final class TermsChosenTest {
         sameWorthLessNumberFirst();
         costsTogether();
         goesOnBehindOneTooDear();
+        allTwelve();
         whichRegionsAreMarked();
         liveStaysWhatItIs();
         liveUntilTheRegionIsFree();
@@ -191,6 +192,26 @@ public final class TermsChosenTest {
         Checks.due("chosen(9), the second is too dear then", heap.chosen(9), 1);
         Checks.due("chosen(12)", heap.chosen(12), 1);
         Checks.due("chosen(13)", heap.chosen(13), 3);
+    }
+
+    private static void allTwelve() {
+        Checks.sentence("Going through them in this order, a region is chosen if");
+        RegionHeap heap = new RegionHeap();
+        for (int i = 0; i < 24; i++) {
+            Heaps.chainEight(heap);
+        }
+        heap.full();
+        heap.hold(0, -1);
+        heap.hold(1, -1);
+        heap.mark();
+        int costs = 0;
+        for (int region = 0; region < 12; region++) {
+            costs += 1 + heap.incoming(region);
+        }
+        Checks.due("chosen for all that they cost", heap.chosen(costs), 4095);
+        Checks.due("one is left out for one less", Integer.bitCount(heap.chosen(costs - 1)), 11);
+        Checks.due("collect", heap.collect(costs), 0);
+        Checks.due("kinds", Checks.kinds(heap), "000000000000");
     }
 
     private static void whichRegionsAreMarked() {

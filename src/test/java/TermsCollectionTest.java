@@ -12,11 +12,14 @@ public final class TermsCollectionTest {
         roomBehindTheLast();
         notBehindWhatWasThereBefore();
         startOfTheLeastFree();
+        startOfARegionCopiedToBefore();
         rootsAndFieldsHoldTheCopy();
         whatIsSoInTheEnd();
         nothingToCopy();
         justEnoughFreeRegions();
         oneFreeRegionTooFew();
+        noneFreeForAFieldOfOneThatStays();
+        noneFreeForAFieldOfACopy();
         aRegionCollectedIsNotFreeYet();
         Checks.finish();
     }
@@ -236,6 +239,20 @@ public final class TermsCollectionTest {
         Checks.due("the first region is FREE", Checks.kinds(heap), "340300000000");
     }
 
+    private static void startOfARegionCopiedToBefore() {
+        Checks.sentence("otherwise to the start of the least region that is FREE");
+        RegionHeap heap = new RegionHeap();
+        heap.make(0, 3, 3);
+        heap.collect(0);
+        Checks.due("copied to region 1", Checks.place(heap, 0), "1+0");
+        heap.hold(0, -1);
+        heap.collect(0);
+        heap.make(1, 3, 3);
+        heap.make(2, 3, 3);
+        heap.collect(0);
+        Checks.due("its 16 words are FREE again", Checks.place(heap, 1) + " " + Checks.place(heap, 2), "1+0 1+8");
+    }
+
     private static void rootsAndFieldsHoldTheCopy() {
         Checks.sentence("In the end roots and fields that held a copied object hold the copy, which has its serial number");
         RegionHeap heap = new RegionHeap();
@@ -329,6 +346,52 @@ public final class TermsCollectionTest {
         words.make(3, 0, 0);
         Checks.due("collect(0), 18 words and one FREE", words.collect(0), -2);
         Checks.due("kinds then", Checks.kinds(words), "444444444330");
+    }
+
+    private static void noneFreeForAFieldOfOneThatStays() {
+        Checks.sentence("If a FREE region is needed and there is none, nothing of all this is done");
+        RegionHeap alone = Heaps.walled(1);
+        alone.make(1, 0, 1);
+        alone.make(1, 0, 0);
+        alone.link(0, 1, 1);
+        alone.hold(1, -1);
+        Checks.due("collect(0), a field of a large one alone", alone.collect(0), -2);
+        Checks.due("counts", alone.count(0) + " " + alone.count(1) + " " + alone.count(2), "0 1 0");
+        alone.load(1, 0, 1);
+        Checks.due("what the field holds", alone.serial(1) + " at " + Checks.place(alone, 1), "13 at 11+0");
+        RegionHeap behind = Heaps.walled(3);
+        behind.make(1, 3, 3);
+        behind.make(2, 3, 3);
+        behind.make(3, 0, 0);
+        behind.link(0, 1, 3);
+        behind.hold(3, -1);
+        Checks.due("kinds", Checks.kinds(behind), "444444444110");
+        Checks.due("collect(0), two roots have room, the field has not", behind.collect(0), -2);
+        behind.load(3, 0, 1);
+        Checks.due("places", Checks.place(behind, 1) + " " + Checks.place(behind, 2) + " " + Checks.place(behind, 3),
+            "9+0 9+8 10+0");
+        Checks.due("kinds then", Checks.kinds(behind), "444444444330");
+        Checks.due("counts", behind.count(0) + " " + behind.count(1) + " " + behind.count(2), "0 1 0");
+    }
+
+    private static void noneFreeForAFieldOfACopy() {
+        Checks.sentence("If a FREE region is needed and there is none, nothing of all this is done");
+        RegionHeap heap = Heaps.walled(3);
+        heap.make(1, 3, 3);
+        heap.make(2, 3, 3);
+        heap.link(1, 1, 2);
+        heap.make(3, 0, 0);
+        heap.link(2, 2, 3);
+        heap.hold(2, -1);
+        heap.hold(3, -1);
+        Checks.due("kinds", Checks.kinds(heap), "444444444110");
+        Checks.due("collect(0), 16 words have room and 2 more have not", heap.collect(0), -2);
+        heap.load(2, 1, 1);
+        heap.load(3, 2, 2);
+        Checks.due("places", Checks.place(heap, 1) + " " + Checks.place(heap, 2) + " " + Checks.place(heap, 3),
+            "9+0 9+8 10+0");
+        Checks.due("kinds then", Checks.kinds(heap), "444444444330");
+        Checks.due("counts", heap.count(0) + " " + heap.count(1) + " " + heap.count(2), "0 1 0");
     }
 
     private static void aRegionCollectedIsNotFreeYet() {

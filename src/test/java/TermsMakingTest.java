@@ -11,6 +11,7 @@ public final class TermsMakingTest {
         fullThenAgain();
         oldRegionWithRoom();
         oldRegionWithTheLeastNumber();
+        oldRegionZero();
         oldRegionIsNotCurrent();
         nothingMadeButTheCollectionsStay();
         largeToTheLeastSideBySide();
@@ -189,6 +190,21 @@ public final class TermsMakingTest {
         heap.make(5, 0, 0);
         Checks.due("words used, pushed together by (c) first", heap.used(10) + " " + heap.used(11), "16 5");
         Checks.due("its place", Checks.place(heap, 5), "11+3");
+    }
+
+    private static void oldRegionZero() {
+        Checks.sentence("the OLD region with the least number in which it has room");
+        RegionHeap heap = new RegionHeap();
+        heap.make(0, 3, 0);
+        heap.full();
+        for (int i = 0; i < 11; i++) {
+            heap.large(1, 1, 16);
+            heap.link(1, 0, 2);
+            heap.hold(2, 1);
+        }
+        Checks.due("kinds", Checks.kinds(heap), "344444444444");
+        heap.make(3, 0, 0);
+        Checks.due("to region 0", Checks.place(heap, 3), "0+5");
     }
 
     private static void oldRegionIsNotCurrent() {
